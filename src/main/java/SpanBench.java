@@ -341,7 +341,7 @@ public final class SpanBench {
         return part >= -most && part <= most;
     }
 
-    /** Exact: parts stay below 2 to the 31, so that 7 times a square of them fits in a long. */
+    /** Exact: no part that is compared goes beyond 2 to the 30, so 7 times its square fits in a long. */
     private static int signOf(long a, long b, int root) {
         int signA = a > 0 ? 1 : a < 0 ? -1 : 0;
         if (root == 0 || b == 0) {
@@ -494,20 +494,21 @@ public final class SpanBench {
         /** Shares are compared crosswise, by products, so that nothing is divided. */
         boolean hasSharesOf(Mover other) {
             for (int k = 1; k < count; k++) {
-                if (productA(other, k, 0) != other.productA(this, k, 0)
-                        || productB(other, k, 0) != other.productB(this, k, 0)) {
+                if (productA(k, other) != other.productA(k, this) || productB(k, other) != other.productB(k, this)) {
                     return false;
                 }
             }
             return true;
         }
 
-        private long productA(Mover other, int k, int otherK) {
-            return (long) partA[k] * other.partA[otherK] + (long) root * partB[k] * other.partB[otherK];
+        /** The a of SPAN k's LENGTH times the LENGTH that SPAN 0 has in the other MOVER. */
+        private long productA(int k, Mover other) {
+            return (long) partA[k] * other.partA[0] + (long) root * partB[k] * other.partB[0];
         }
 
-        private long productB(Mover other, int k, int otherK) {
-            return (long) partA[k] * other.partB[otherK] + (long) partB[k] * other.partA[otherK];
+        /** The b of SPAN k's LENGTH times the LENGTH that SPAN 0 has in the other MOVER. */
+        private long productB(int k, Mover other) {
+            return (long) partA[k] * other.partB[0] + (long) partB[k] * other.partA[0];
         }
 
         private boolean isSpentBy(int winner, int loser) {

@@ -12,6 +12,7 @@ public final class SheetTest {
         ordersBelow();
         aRefusedOrderChangesNothing();
         layNeedsOrderAndLengths();
+        everySpanNeedsItsLength();
         aRefusedLayChangesNothing();
         layTakesTheSheetAsItIs();
         Due.end();
@@ -185,6 +186,22 @@ public final class SheetTest {
         Due.is("two are enough", x.lay(), 2);
         Due.is("length", x.length(2, 1, 0), true);
         Due.is("the order tells how many", x.lay(), 2);
+    }
+
+    private static void everySpanNeedsItsLength() {
+        for (int without = 0; without < 8; without++) {
+            SpanBench x = Due.laid(0x01234567, 1, 1, 1, 1, 1, 1, 1, 1);
+            Due.is("root takes all lengths", x.root(0), true);
+            Due.is("below", x.below(8, 0x01234567), true);
+            for (int k = 0; k < 8; k++) {
+                if (k != without) {
+                    Due.is("length", x.length(k, 1, 0), true);
+                }
+            }
+            Due.is("none for " + without, x.lay(), -2);
+            Due.is("length", x.length(without, 1, 0), true);
+            Due.is("all have one", x.lay(), 8);
+        }
     }
 
     private static void aRefusedLayChangesNothing() {

@@ -13,6 +13,7 @@ public final class StepTest {
         tableThatThereIsNone();
         loopsOfTwoSpans();
         loopsOfMoreSpans();
+        theLongestLoops();
         noLoops();
         theMoverStaysByALoop();
         Due.end();
@@ -210,6 +211,19 @@ public final class StepTest {
         Due.is("five spans", Due.laidWithRoot(3, 0x31204, 2, 0, 4, 2, 4, 2, 2, 2, 0, 2).loop(), 16);
         // Spans 1 and 2 alone would be in a loop of 2; 0 is parted, and its share grows.
         Due.is("a parted one", Due.laidWithRoot(5, 0x120, 7, 0, 2, 0, 1, 1).loop(), 0);
+    }
+
+    private static void theLongestLoops() {
+        Due.is("just 300", Due.laidWithRoot(5, 0x01, 1782, 797, 369, 165).loop(), 300);
+        Due.is("just 300, three spans", Due.laidWithRoot(2, 0x012, 30, 21, 69, 49, 178, 126).loop(), 300);
+        SpanBench x = Due.laidWithRoot(2, 0x01, 5, 1, 937, 663);
+        Due.is("301 are too many", x.loop(), 0);
+        Due.is("steps", x.steps(301), 301);
+        // Both lengths have come to be 3363 - 2378 root 2 times what they were.
+        lengths(x, 12059, -2097);
+        Due.is("b of 0", x.spans(0, 1), -8527);
+        Due.is("b of 1", x.spans(1, 1), 1483);
+        orders(x, "01", "10");
     }
 
     private static void noLoops() {
