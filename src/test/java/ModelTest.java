@@ -1,6 +1,9 @@
 import java.util.Random;
 
-/** All promises: runs of calls, drawn from fixed seeds, answered by the program and by PlainBench. */
+/**
+ * All promises: runs of calls, drawn from fixed seeds, answered by the program and by PlainBench. A run ends with a look
+ * at all that can be seen, and stays within the calls for which the document promises answers.
+ */
 public final class ModelTest {
     private static final int[] ROOTS = {0, 2, 3, 5, 7};
     private static final int[] ODD = {
@@ -8,12 +11,18 @@ public final class ModelTest {
         -16384, 16384, -16385, 16385, -1001, -1000, 1000, 1001, -1, 0, 1, 2, 3, 7, 8, 9, 10, 11
     };
 
+    private static final int MOST_CALLS = 512;
+    private static final int MOST_CALLS_OF_A_DRAW = 60;
+    private static final int MOST_CALLS_OF_THE_LOOK = 230;
+    private static final int LENGTH_TRIES = 6;
+
     private final Random random;
     private final int run;
     private final SpanBench x = new SpanBench();
     private final PlainBench plain = new PlainBench();
     private int n = 2;
     private int rootNow = 0;
+    private int calls = 0;
 
     private ModelTest(int run) {
         this.run = run;
@@ -21,7 +30,7 @@ public final class ModelTest {
     }
 
     public static void main(String[] args) {
-        for (int run = 0; run < 1500 && Due.wrongSoFar() < 20; run++) {
+        for (int run = 0; run < 6000 && Due.wrongSoFar() < 20; run++) {
             new ModelTest(run).go();
         }
         Due.end();
@@ -29,7 +38,7 @@ public final class ModelTest {
 
     private void go() {
         layAnother();
-        for (int i = 0; i < 25; i++) {
+        while (calls <= MOST_CALLS - MOST_CALLS_OF_A_DRAW - MOST_CALLS_OF_THE_LOOK) {
             switch (random.nextInt(16)) {
                 case 0 -> layAnother();
                 case 1 -> sheetCall();
@@ -44,15 +53,19 @@ public final class ModelTest {
                 case 14 -> words();
                 default -> oddCall();
             }
-            lookAtAll();
+            glance();
         }
+        lookAtAll();
+        Due.is("run " + run + " has at most 512 calls", calls <= MOST_CALLS, true);
     }
 
     private void same(String call, long got, long want) {
+        calls++;
         Due.is("run " + run + ": " + call, got, want);
     }
 
     private void same(String call, boolean got, boolean want) {
+        calls++;
         Due.is("run " + run + ": " + call, got, want);
     }
 
@@ -68,7 +81,7 @@ public final class ModelTest {
         n = 2 + random.nextInt(random.nextInt(3) == 0 ? 7 : 4);
         int most = new int[] {3, 12, 200, 16384}[random.nextInt(4)];
         for (int k = 0; k < n; k++) {
-            for (int tries = 0; tries < 20 && !lengthUpTo(k, most); tries++) {
+            for (int tries = 0; tries < LENGTH_TRIES && !lengthUpTo(k, most); tries++) {
                 continue;
             }
         }
@@ -185,6 +198,18 @@ public final class ModelTest {
             case 6 -> same("where " + p, x.where(p), plain.where(p));
             default -> same("point " + p + " " + q, x.point(p, q), plain.point(p, q));
         }
+    }
+
+    private void glance() {
+        int k = random.nextInt(9);
+        int what = random.nextInt(4);
+        same("of " + what, x.of(what), plain.of(what));
+        same("where 0", x.where(0), plain.where(0));
+        same("where 1", x.where(1), plain.where(1));
+        same("spans " + k, x.spans(k, what % 2), plain.spans(k, what % 2));
+        same("order " + k, x.order(what % 2, k), plain.order(what % 2, k));
+        same("round " + k, x.round(k / 3, k % 3), plain.round(k / 3, k % 3));
+        same("table " + k, x.table(k / 2, what), plain.table(k / 2, what));
     }
 
     private void lookAtAll() {

@@ -139,11 +139,9 @@ public final class PointTest {
         Due.is("the next thousand", x.move(1000), -1);
         Due.is("a stays", x.where(0), a);
         Due.is("b stays", x.where(1), 32000L * 11585L);
-        int left = 0;
-        while (left < 1000 && x.move(1) >= 0) {
-            left++;
-        }
-        Due.is("moves up to the bound", left, 768);
+        Due.is("one too many", x.move(769), -1);
+        Due.is("moves up to the bound", x.move(768) >= 0, true);
+        Due.is("no more", x.move(1), -1);
         Due.is("still within", x.where(0) >= -REACH && x.where(0) < -REACH + 16384, true);
         Due.is("backwards it can", x.move(-768) >= 0, true);
         Due.is("as it was", x.where(0), a);
